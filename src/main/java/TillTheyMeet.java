@@ -254,8 +254,8 @@ public final class TillTheyMeet {
     }
 
     public int slowed(int gang, int sheet) {
-        if (!isGang(gang) || !isSheet(sheet)) return BAD;
-        Sheet s = sheets[sheet];
+        Sheet s = sheetOf(sheet);
+        if (!isGang(gang) || s == null) return BAD;
         if (s.isMissing()) return MISSING;
         int next = now.gangOf(gang).nextYard();
         if (now.ahead() == 0 || !isYard(next)) return STATE;
@@ -312,10 +312,6 @@ public final class TillTheyMeet {
     }
 
     public int drawn(int seed) {
-        return endsDrawn(seed);
-    }
-
-    private int endsDrawn(int seed) {
         trial.copyAll(now);
         int z = seed;
         for (int y = 0; y < YARDS; y++) {
@@ -330,7 +326,7 @@ public final class TillTheyMeet {
         if (!within(many, 1, MOST_SEEDS) || !within(most, 0, MOST_DAYS) || !within(part, 0, 1)) return NO;
         int hits = 0;
         for (int i = 0; i < many; i++) {
-            if (endsDrawn(seed + i) <= most) hits++;
+            if (drawn(seed + i) <= most) hits++;
         }
         int shared = commonPart(hits, many);
         if (shared < 1) return NO;
@@ -374,16 +370,17 @@ public final class TillTheyMeet {
     // ---- the host
 
     public int sheet(int sheet, int sort, int n) {
-        if (!isSheet(sheet) || !within(sort, NONE, LAST_SORT)) return BAD;
+        Sheet s = sheetOf(sheet);
+        if (s == null || !within(sort, NONE, LAST_SORT)) return BAD;
         if (sort != NONE && n > SHEET_ITEMS) return BAD;
         if (sort != NONE && n < 0) return BELOW_ZERO;
-        sheets[sheet].become(sort, sort == NONE ? 0 : n);
+        s.become(sort, sort == NONE ? 0 : n);
         return 1;
     }
 
     public int cell(int sheet, int i, int v) {
-        if (!isSheet(sheet)) return BAD;
-        Sheet s = sheets[sheet];
+        Sheet s = sheetOf(sheet);
+        if (s == null) return BAD;
         if (s.isMissing()) return MISSING;
         if (!s.has(i)) return OUTSIDE;
         s.items[i] = s.cut(v);
@@ -391,9 +388,9 @@ public final class TillTheyMeet {
     }
 
     public int copy(int sheet, int i, int other, int j, int n) {
-        if (!isSheet(sheet) || !isSheet(other)) return BAD;
-        Sheet from = sheets[sheet];
-        Sheet to = sheets[other];
+        Sheet from = sheetOf(sheet);
+        Sheet to = sheetOf(other);
+        if (from == null || to == null) return BAD;
         if (from.isMissing() || to.isMissing()) return MISSING;
         if (from.sort != to.sort) return UNLIKE;
         if (!from.hasSpan(i, n) || !to.hasSpan(j, n)) return OUTSIDE;
@@ -402,8 +399,8 @@ public final class TillTheyMeet {
     }
 
     public int grounds(int sheet, int sort, int from, int n) {
-        if (!isSheet(sheet) || !within(sort, 0, LAST_SORT) || !within(n, 0, MOST_PAIRS)) return BAD;
-        Sheet s = sheets[sheet];
+        Sheet s = sheetOf(sheet);
+        if (s == null || !within(sort, 0, LAST_SORT) || !within(n, 0, MOST_PAIRS)) return BAD;
         if (!s.isMissing() && s.sort != sort) return UNLIKE;
         if (s.isMissing()) return MISSING;
         int became = 0;
@@ -434,8 +431,9 @@ public final class TillTheyMeet {
         return 0 <= gang && gang < GANGS;
     }
 
-    private static boolean isSheet(int sheet) {
-        return 0 <= sheet && sheet < SHEETS;
+    // null: no such sheet.
+    private Sheet sheetOf(int sheet) {
+        return 0 <= sheet && sheet < SHEETS ? sheets[sheet] : null;
     }
 
     /** One of the two gangs. */
@@ -727,7 +725,7 @@ public final class TillTheyMeet {
         // One method, with no helpers: the calls above it go deep already, and RUNs come here most.
         int valueOf(int part, int[] meant) {
             if (part < 0 || part + 1 >= bounds.length || meant.length < NAMES) return 0;
-            int end = Math.min(bounds[part + 1], steps.length);
+            int end = bounds[part + 1] < steps.length ? bounds[part + 1] : steps.length;
             int top = 0;
             for (int i = bounds[part]; i < end; i++) {
                 int step = steps[i];

@@ -326,6 +326,10 @@ public final class PromisesTest {
         fault("rate 1+grounds;", 7);
         fault("rate groun;", 5);
         fault("rate rate;", 5);
+        fault("fate 1;", 0);
+        fault("rate den;", 5);
+        fault("rate menz;", 5);
+        fault("rate amen;", 5);
         fault("rate groundmen;", 5);
         fault("rate abcdefghijklmnopqrstuvwxyz;", 5);
         fault("rate Ground;", 5);
