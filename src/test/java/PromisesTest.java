@@ -1,4 +1,7 @@
-/** Each promise by answers that were worked out by hand from the document: ordinary inputs, edges, wrong inputs. */
+/**
+ * Each promise by answers that were worked out by hand from the document: ordinary inputs, edges, wrong inputs.
+ * (The quarrel of eight turns and drawn(5) are not: their answers are those of ../shared/tests.)
+ */
 public final class PromisesTest {
     private static final int BAD = -2, STATE = -3, FULL = -4, NONE = -1;
     private static final int MISSING = -11, OUTSIDE = -12, UNLIKE = -13, BELOW_ZERO = -14;
