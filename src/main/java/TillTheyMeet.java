@@ -472,11 +472,16 @@ public final class TillTheyMeet {
             switch (kind) {
                 case STEADY: return half;
                 case SLY: return sly;
-                case NIGHT: return day % (number + 2) == 0 ? 2 * half : half;
+                case NIGHT: return isNight(day) ? 2 * half : half;
                 case LAZY: return Math.max(0, sly - 3 * ground);
                 case PROUD: return ground == LAST_GROUND ? half + number : half;
                 default: return rate;
             }
+        }
+
+        private boolean isNight(int day) {
+            int every = number + 2;
+            return every > 0 && day % every == 0;
         }
 
         int costs() {

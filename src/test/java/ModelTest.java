@@ -199,46 +199,10 @@ public final class ModelTest {
         calls++;
         String call = name + Arrays.toString(a);
         trail.append(call).append(' ');
-        long got = onReal(name, a);
+        long got = Roads.call(real, name, a);
         long want = onModel(name, a);
         due.is(got == want ? call : trail.toString(), got, want);
         return (int) want;
-    }
-
-    private long onReal(String name, int[] a) {
-        switch (name) {
-            case "ground": return real.ground(a[0], a[1], a[2]);
-            case "yard": return real.yard(a[0], a[1]);
-            case "gang": return real.gang(a[0], a[1], a[2]);
-            case "set": return real.set(a[0], a[1]);
-            case "told": return real.told(a[0], a[1]);
-            case "feed": return real.feed(a[0]);
-            case "text": return real.text();
-            case "force": return real.force(a[0]);
-            case "day": return real.day();
-            case "run": return real.run(a[0]);
-            case "done": return real.done(a[0], a[1]);
-            case "ease": return real.ease(a[0], a[1]);
-            case "men": return real.men(a[0], a[1]);
-            case "quarrel": return real.quarrel(a[0]);
-            case "bore": return real.bore(a[0], a[1]);
-            case "well": return real.well(a[0]);
-            case "slowed": return real.slowed(a[0], a[1]);
-            case "bet": return real.bet(a[0], a[1], a[2]);
-            case "soonest": return real.soonest(a[0]);
-            case "cheapest": return real.cheapest();
-            case "drawn": return real.drawn(a[0]);
-            case "chance": return real.chance(a[0], a[1], a[2], a[3]);
-            case "image": return real.image();
-            case "back": return real.back();
-            case "count": return real.count(a[0]);
-            case "sheet": return real.sheet(a[0], a[1], a[2]);
-            case "cell": return real.cell(a[0], a[1], a[2]);
-            case "copy": return real.copy(a[0], a[1], a[2], a[3], a[4]);
-            case "grounds": return real.grounds(a[0], a[1], a[2], a[3]);
-            case "taken": return real.taken(a[0], a[1]);
-            default: throw new IllegalStateException(name);
-        }
     }
 
     private long onModel(String name, int[] a) {

@@ -58,24 +58,6 @@ public final class PromisesTest {
         due.is(what, got, want);
     }
 
-    private static int write(TillTheyMeet x, String text) {
-        for (int i = 0; i < text.length(); i++) x.feed(text.charAt(i));
-        return x.text();
-    }
-
-    /** A new object whose rule is the text. */
-    private static TillTheyMeet by(String text) {
-        TillTheyMeet x = new TillTheyMeet();
-        is("text of " + text, write(x, text), 1);
-        is("force of " + text, x.force(1), 0);
-        return x;
-    }
-
-    private static void fill(TillTheyMeet x, int sheet, int sort, int... items) {
-        is("sheet to fill", x.sheet(sheet, sort, items.length), 1);
-        for (int i = 0; i < items.length; i++) is("cell to fill", x.cell(sheet, i, items[i]), 1);
-    }
-
     // 1
     private static void aNewObject() {
         TillTheyMeet x = new TillTheyMeet();
@@ -127,7 +109,7 @@ public final class PromisesTest {
 
     // 3
     private static void yard() {
-        TillTheyMeet x = by("rate 40;need men*20+ground*100+yard+known*50+ahead*2+day*3;worth 0;");
+        TillTheyMeet x = Roads.by("rate 40;need men*20+ground*100+yard+known*50+ahead*2+day*3;worth 0;");
         x.set(0, 1);
         x.set(1, 9);
         x.ground(7, 0, 3);
@@ -210,14 +192,14 @@ public final class PromisesTest {
         is("6 wrong", x.told(2, 0), BAD);
         is("6 wrong", x.told(0, -1), BAD);
         is("6 wrong", x.told(0, 9), BAD);
-        TillTheyMeet y = by("rate men*20+ahead;need 1;worth 0;");
+        TillTheyMeet y = Roads.by("rate men*20+ahead;need 1;worth 0;");
         is("6 by its own men", y.told(1, 7), 224);
         y.set(1, 3);
         is("6 by its own men", y.told(1, 7), 84);
         is("6 by its own men", y.told(0, 7), 224);
         y.day();
         is("6 none is left", y.told(1, 7), 0);
-        TillTheyMeet z = by("rate ground*100+yard+known*50;need 999;worth 0;");
+        TillTheyMeet z = Roads.by("rate ground*100+yard+known*50;need 999;worth 0;");
         z.ground(0, 0, 1);
         z.ground(23, 0, 2);
         z.bore(23, 1);
@@ -227,7 +209,7 @@ public final class PromisesTest {
 
     /** What a gang of a kind does on a ground in days 0 and on, no yard being done. */
     private static void does(int kind, int number, int ground, int... want) {
-        TillTheyMeet x = by("rate 41;need 999;worth 0;");
+        TillTheyMeet x = Roads.by("rate 41;need 999;worth 0;");
         for (int g = 0; g < 2; g++) {
             x.gang(g, kind, number);
             x.ground(23 * g, 0, ground);
@@ -262,7 +244,7 @@ public final class PromisesTest {
             x.day();
             is("6 spent by kind " + c[0], x.told(0, 6), 30 + c[2]);
         }
-        TillTheyMeet lazy = by("rate 2;need 999;worth 0;");
+        TillTheyMeet lazy = Roads.by("rate 2;need 999;worth 0;");
         lazy.gang(0, 4, 1);
         lazy.ground(0, 0, 3);
         is("6 not below 0", lazy.told(0, 7), 0);
@@ -285,7 +267,7 @@ public final class PromisesTest {
 
     private static void good(String text) {
         TillTheyMeet x = new TillTheyMeet();
-        is("8 " + text, write(x, text), 1);
+        is("8 " + text, Roads.write(x, text), 1);
         is("8 tape is empty", x.count(6), 0);
         is("8 texts", x.count(5), 2);
         is("8 the rule stays", x.count(7), 0);
@@ -293,7 +275,7 @@ public final class PromisesTest {
 
     private static void fault(String text, int place) {
         TillTheyMeet x = new TillTheyMeet();
-        is("8 " + text, write(x, text), -100 - place);
+        is("8 " + text, Roads.write(x, text), -100 - place);
         is("8 tape is empty", x.count(6), 0);
         is("8 texts", x.count(5), 1);
     }
@@ -397,12 +379,12 @@ public final class PromisesTest {
     private static void fullOfTexts() {
         TillTheyMeet x = new TillTheyMeet();
         for (int i = 1; i <= 5; i++) {
-            is("8 a fault takes no room", write(x, "rate"), -104);
-            is("8", write(x, "rate " + i + ";need " + i + ";worth 0;"), i);
+            is("8 a fault takes no room", Roads.write(x, "rate"), -104);
+            is("8", Roads.write(x, "rate " + i + ";need " + i + ";worth 0;"), i);
         }
         is("8 texts", x.count(5), 6);
         is("8 full, with an empty tape", x.text(), FULL);
-        is("8 full", write(x, "rate"), FULL);
+        is("8 full", Roads.write(x, "rate"), FULL);
         is("8 the tape stays", x.count(6), 4);
         is("8 each has its own", x.force(4), 0);
         is("8", x.yard(0, 3), 4);
@@ -416,7 +398,7 @@ public final class PromisesTest {
         is("9", x.force(0), 0);
         is("9 wrong", x.force(1), BAD);
         is("9 wrong", x.force(-1), BAD);
-        write(x, BY_MEN);
+        Roads.write(x, BY_MEN);
         is("9 not yet", x.yard(0, 3), 30);
         is("9", x.force(1), 0);
         is("9", x.count(7), 1);
@@ -429,7 +411,7 @@ public final class PromisesTest {
     }
 
     private static void means(String e, int want) {
-        is("9 " + e, by("rate 0;need " + e + ";worth 0;").yard(3, 3), want);
+        is("9 " + e, Roads.by("rate 0;need " + e + ";worth 0;").yard(3, 3), want);
     }
 
     private static void meanings() {
@@ -481,19 +463,19 @@ public final class PromisesTest {
     }
 
     private static void bounds() {
-        TillTheyMeet high = by("rate 1000;need 1000;worth 1000;");
+        TillTheyMeet high = Roads.by("rate 1000;need 1000;worth 1000;");
         is("9 rate, at most", high.told(0, 7), 999);
         is("9 need, at most", high.yard(0, 3), 999);
         is("9 worth, at most", high.run(5), 24 * 999 - 24 * 50);
-        TillTheyMeet low = by("rate -1;need 0;worth -1000;");
+        TillTheyMeet low = Roads.by("rate -1;need 0;worth -1000;");
         is("9 rate, at least", low.told(0, 7), 0);
         is("9 need, at least", low.yard(0, 3), 1);
         is("9 worth, at least", low.run(5), -24 * 999);
-        is("9 need, at least", by("rate 1;need -9999;worth 0;").yard(0, 3), 1);
-        TillTheyMeet steady = by("rate 9999;need 999;worth 0;");
+        is("9 need, at least", Roads.by("rate 1;need -9999;worth 0;").yard(0, 3), 1);
+        TillTheyMeet steady = Roads.by("rate 9999;need 999;worth 0;");
         steady.gang(0, 3, 0);
         is("9 the bound is the text's", steady.told(0, 7), 1018);
-        TillTheyMeet county = by("rate 999;need 1;worth yard*10+known*100+men-ahead-day+ground;");
+        TillTheyMeet county = Roads.by("rate 999;need 1;worth yard*10+known*100+men-ahead-day+ground;");
         county.set(0, 3);
         county.bore(0, 2);
         county.ground(9, 0, 3);
@@ -506,7 +488,7 @@ public final class PromisesTest {
 
     /** 30 men against 15, by 10 a yard: gang 0 does the last one in day 6. */
     private static TillTheyMeet uneven() {
-        TillTheyMeet x = by(BY_MEN);
+        TillTheyMeet x = Roads.by(BY_MEN);
         x.set(0, 30);
         x.set(1, 15);
         return x;
@@ -534,13 +516,13 @@ public final class PromisesTest {
             is("10 known", x.yard(y, 1), 1);
         }
         // each yard needs more than the last one, as it is asked each time
-        TillTheyMeet y = by("rate 10;need 26-ahead;worth 0;");
+        TillTheyMeet y = Roads.by("rate 10;need 26-ahead;worth 0;");
         is("10 needs of 2, 3, 4; then 5, of 10 each", y.day(), 20);
         is("10 what is left", y.told(0, 4), 1);
         is("10 what is left", y.told(1, 4), 5);
         is("10 done", y.told(0, 3), 3);
         is("10 done", y.told(1, 3), 1);
-        TillTheyMeet z = by("rate known*30+5;need 20;worth 0;");
+        TillTheyMeet z = Roads.by("rate known*30+5;need 20;worth 0;");
         z.bore(0, 1);
         z.day();
         is("10 35 on the known one", z.told(0, 3), 1);
@@ -574,13 +556,13 @@ public final class PromisesTest {
         for (int d = 0; d < 9; d++) x.day();
         int[] met = {0, 17, 310, 125, 1200, -1200};
         for (int w = 0; w < 6; w++) is("11 run, as they have met " + w, x.run(w), met[w]);
-        TillTheyMeet still = by(STILL);
+        TillTheyMeet still = Roads.by(STILL);
         int[] never = {300, 0, -9000, -9000, 0, 0};
         for (int w = 0; w < 6; w++) is("11 run, never " + w, still.run(w), never[w]);
-        TillTheyMeet last = by("rate 0-(day<299)+1;need 1;worth 0;");
-        is("11 a day too late", by("rate 24*(day=300);need 1;worth 0;").run(1), 0);
-        is("11 just in time", by("rate 24*(day=299);need 1;worth 0;").run(0), 300);
-        is("11 just in time", by("rate 24*(day=299);need 1;worth 0;").run(1), 24);
+        TillTheyMeet last = Roads.by("rate 0-(day<299)+1;need 1;worth 0;");
+        is("11 a day too late", Roads.by("rate 24*(day=300);need 1;worth 0;").run(1), 0);
+        is("11 just in time", Roads.by("rate 24*(day=299);need 1;worth 0;").run(0), 300);
+        is("11 just in time", Roads.by("rate 24*(day=299);need 1;worth 0;").run(1), 24);
         is("11 one in the last day", last.run(1), 1);
     }
 
@@ -605,14 +587,14 @@ public final class PromisesTest {
 
     // 13
     private static void ease() {
-        TillTheyMeet still = by(STILL);
+        TillTheyMeet still = Roads.by(STILL);
         is("13 no work, no wages", still.ease(0, 0), 10);
         is("13", still.ease(0, 1), -290 * 30);
         still.set(4, 0);
         is("13 of like ones the least", still.ease(1, 0), 0);
         is("13", still.ease(1, 1), 0);
         // the yards are dear till day 3 for both, and the other one does not work
-        TillTheyMeet dear = by("rate 100*(yard<12);need 10+900*(day<3);worth 0;");
+        TillTheyMeet dear = Roads.by("rate 100*(yard<12);need 10+900*(day<3);worth 0;");
         // work comes to 100 a day from its own first turn; with no easing 400 are there on day 3, and on day 4 it has 500 of 240
         is("13 when to begin", dear.ease(0, 0), 1);
         is("13", dear.ease(0, 1), 24 * 50 - 3 * 30);
@@ -624,19 +606,19 @@ public final class PromisesTest {
 
     // 14
     private static void men() {
-        TillTheyMeet still = by(STILL);
+        TillTheyMeet still = Roads.by(STILL);
         is("14 fewest", still.men(0, 0), 1);
         is("14", still.men(0, 1), -900);
         still.set(4, 0);
         is("14 of like ones the least", still.men(1, 0), 1);
         is("14", still.men(1, 1), 0);
-        TillTheyMeet just = by("rate 240*(men=13 or men=17);need 10;worth 0;");
+        TillTheyMeet just = Roads.by("rate 240*(men=13 or men=17);need 10;worth 0;");
         is("14 the fewer", just.men(0, 0), 13);
         is("14 all 24 in a day", just.men(0, 1), 1200 - 39);
         is("14 for the other end", just.men(1, 0), 13);
         just.set(4, 0);
         is("14 of like ones the least", just.men(0, 0), 13);
-        is("14 up to 30", by("rate 240*(men=30);need 10;worth 0;").men(0, 0), 30);
+        is("14 up to 30", Roads.by("rate 240*(men=30);need 10;worth 0;").men(0, 0), 30);
         is("14 wrong", just.men(-1, 0), NO_SUCH_RUN);
         is("14 wrong", just.men(2, 0), NO_SUCH_RUN);
         is("14 wrong", just.men(0, -1), NO_SUCH_RUN);
@@ -646,7 +628,7 @@ public final class PromisesTest {
 
     // 15
     private static void quarrel() {
-        TillTheyMeet still = by(STILL);
+        TillTheyMeet still = Roads.by(STILL);
         is("15 each once", still.quarrel(0), 2);
         is("15", still.quarrel(1), 1);
         is("15", still.quarrel(2), 1);
@@ -709,7 +691,7 @@ public final class PromisesTest {
         is("17 the next one", x.well(0), 0);
         is("17 wrong", x.well(-1), BAD);
         is("17 wrong", x.well(2), BAD);
-        TillTheyMeet z = by("rate 999;need 1;worth 0;");
+        TillTheyMeet z = Roads.by("rate 999;need 1;worth 0;");
         z.ground(4, 0, 3);
         z.day();
         is("17 all are done", z.well(0), NONE);
@@ -721,7 +703,7 @@ public final class PromisesTest {
             for (int sort = 0; sort < 3; sort++) {
                 TillTheyMeet x = new TillTheyMeet();
                 x.ground(g == 0 ? 0 : 23, 0, 2);
-                fill(x, 2, sort, done);
+                Roads.fill(x, 2, sort, done);
                 is("18 slowed", x.slowed(g, 2), want);
             }
         }
@@ -747,15 +729,15 @@ public final class PromisesTest {
         is("18 wrong", x.slowed(0, 4), BAD);
         is("18 missing", x.slowed(0, 3), MISSING);
         x.day();
-        fill(x, 3, 2, 2, 4);
+        Roads.fill(x, 3, 2, 2, 4);
         is("18 from now on, all that it has done", x.slowed(0, 3), 1);
         // they meet in day 9, and then as many are done for good
         TillTheyMeet y = new TillTheyMeet();
-        fill(y, 0, 0, 1, 2, 4, 5, 6, 8, 9, 10, 12, 12, 12);
+        Roads.fill(y, 0, 0, 1, 2, 4, 5, 6, 8, 9, 10, 12, 12, 12);
         is("18 behind their meeting", y.slowed(0, 0), 1);
-        fill(y, 0, 0, 1, 2, 4, 5, 6, 8, 9, 10, 12, 12, 13);
+        Roads.fill(y, 0, 0, 1, 2, 4, 5, 6, 8, 9, 10, 12, 12, 13);
         is("18 behind their meeting", y.slowed(0, 0), 0);
-        TillTheyMeet z = by("rate 999;need 1;worth 0;");
+        TillTheyMeet z = Roads.by("rate 999;need 1;worth 0;");
         z.day();
         is("18 missing, ahead of the state", z.slowed(0, 0), MISSING);
         z.sheet(0, 0, 0);
@@ -779,14 +761,14 @@ public final class PromisesTest {
 
     // 20
     private static void soonest() {
-        TillTheyMeet x = by("rate men=7;need 1;worth 0;");
+        TillTheyMeet x = Roads.by("rate men=7;need 1;worth 0;");
         is("20 7 at one end or the other", x.soonest(0), 7);
         is("20", x.soonest(1), 24);
         is("20 men stay", x.told(0, 2), 10);
-        TillTheyMeet still = by(STILL);
+        TillTheyMeet still = Roads.by(STILL);
         is("20 of like ones the fewest", still.soonest(0), 1);
         is("20", still.soonest(1), 300);
-        TillTheyMeet most = by("rate men*(men=19 and yard<20);need 1;worth 0;");
+        TillTheyMeet most = Roads.by("rate men*(men=19 and yard<20);need 1;worth 0;");
         is("20 19 at yard 0", most.soonest(0), 19);
         is("20 19 yards, and 5", most.soonest(1), 2);
         is("20 wrong", still.soonest(-1), BAD);
@@ -805,7 +787,7 @@ public final class PromisesTest {
         x.set(4, 14);
         is("21 too dear", x.cheapest(), NONE);
         is("21 pay stays", x.count(2), 50);
-        is("21 never", by(STILL).cheapest(), NONE);
+        is("21 never", Roads.by(STILL).cheapest(), NONE);
         // gang 1 needs 225 by 7 yards
         is("21 the dearer one", uneven().cheapest(), 35);
         TillTheyMeet z = uneven();
@@ -843,7 +825,7 @@ public final class PromisesTest {
         y.ground(12, 0, 2);
         y.ground(20, 0, 1);
         is("22", y.drawn(5), 25);
-        TillTheyMeet z = by("rate 999;need 1;worth 0;");
+        TillTheyMeet z = Roads.by("rate 999;need 1;worth 0;");
         z.day();
         is("22 all are done", z.drawn(3), 0);
     }
@@ -867,26 +849,12 @@ public final class PromisesTest {
         for (int[] w : wrong) is("23 wrong", x.chance(0, w[0], w[1], w[2]), NO);
     }
 
-    /** All that an object tells of itself, in one number a place. */
-    private static int[] allOf(TillTheyMeet x) {
-        int[] all = new int[24 * 4 + 18 + 8];
-        int n = 0;
-        for (int y = 0; y < 24; y++) for (int w = 0; w < 4; w++) all[n++] = x.yard(y, w);
-        for (int g = 0; g < 2; g++) for (int w = 0; w < 9; w++) all[n++] = x.told(g, w);
-        for (int w = 0; w < 8; w++) all[n++] = x.count(w);
-        return all;
-    }
-
-    private static void alike(String what, int[] a, int[] b) {
-        for (int i = 0; i < a.length; i++) is(what + " at " + i, a[i], b[i]);
-    }
-
     // 24, 25
     private static void imageAndBack() {
         TillTheyMeet x = new TillTheyMeet();
         is("25 there is none", x.back(), STATE);
-        write(x, BY_MEN);
-        write(x, "rate day;need 7;worth 1;");
+        Roads.write(x, BY_MEN);
+        Roads.write(x, "rate day;need 7;worth 1;");
         x.force(1);
         x.ground(7, 0, 2);
         x.bore(9, 2);
@@ -898,9 +866,9 @@ public final class PromisesTest {
         x.gang(0, 3, 2);
         x.day();
         x.day();
-        int[] then = allOf(x);
+        int[] then = Roads.allOf(x);
         is("24", x.image(), 2);
-        alike("24 nothing changes", allOf(x), then);
+        Roads.alike(due, "24 nothing changes", Roads.allOf(x), then);
         x.force(2);
         x.ground(7, 0, 1);
         x.ground(9, 1, 0);
@@ -909,7 +877,7 @@ public final class PromisesTest {
         x.day();
         x.day();
         is("25", x.back(), 2);
-        alike("25 all is as it was", allOf(x), then);
+        Roads.alike(due, "25 all is as it was", Roads.allOf(x), then);
         x.day();
         x.gang(0, 4, 6);
         x.gang(1, 5, 8);
@@ -933,8 +901,8 @@ public final class PromisesTest {
     // 26
     private static void count() {
         TillTheyMeet x = new TillTheyMeet();
-        write(x, BY_MEN);
-        write(x, STILL);
+        Roads.write(x, BY_MEN);
+        Roads.write(x, STILL);
         x.feed(65);
         x.set(2, 11);
         x.set(3, 12);
@@ -983,7 +951,7 @@ public final class PromisesTest {
 
     private static void cutTo(int sort, int yard, int ground, int want) {
         TillTheyMeet x = new TillTheyMeet();
-        fill(x, 1, sort, yard, ground);
+        Roads.fill(x, 1, sort, yard, ground);
         is("28 cut", x.grounds(1, sort, 0, 1), want);
         is("28 cut", x.yard(5, 0), want == 1 ? 3 : 0);
     }
@@ -991,7 +959,7 @@ public final class PromisesTest {
     // 29
     private static void copy() {
         TillTheyMeet x = new TillTheyMeet();
-        fill(x, 0, 1, 1, 2, 3, 1, 5, 2, 7, 3);
+        Roads.fill(x, 0, 1, 1, 2, 3, 1, 5, 2, 7, 3);
         x.sheet(1, 1, 4);
         is("29", x.copy(0, 2, 1, 0, 4), 4);
         is("29 as they were", x.grounds(1, 1, 0, 2), 2);
@@ -1027,7 +995,7 @@ public final class PromisesTest {
     private static void grounds() {
         TillTheyMeet x = new TillTheyMeet();
         x.day();
-        fill(x, 0, 0, 5, 3, 24, 1, 7, 4, 0, 1, -1, 1, 6, -1, 8, 2, 5, 3, 9);
+        Roads.fill(x, 0, 0, 5, 3, 24, 1, 7, 4, 0, 1, -1, 1, 6, -1, 8, 2, 5, 3, 9);
         is("30 three of eight, one twice", x.grounds(0, 0, 0, 8), 3);
         is("30", x.yard(5, 0), 3);
         is("30", x.yard(8, 0), 2);
@@ -1038,7 +1006,7 @@ public final class PromisesTest {
         is("30 outside", x.grounds(0, 0, 17, 1), OUTSIDE);
         is("30 outside", x.grounds(0, 0, Integer.MAX_VALUE, 1), OUTSIDE);
         is("30 outside", x.grounds(0, 0, Integer.MIN_VALUE, 20), OUTSIDE);
-        fill(x, 1, 2, 10, 1, 11, 2, 12);
+        Roads.fill(x, 1, 2, 10, 1, 11, 2, 12);
         is("30 outside", x.grounds(1, 2, 0, 3), OUTSIDE);
         is("30 what stood ahead", x.yard(10, 0), 1);
         is("30 what stood ahead", x.yard(11, 0), 2);
@@ -1055,7 +1023,7 @@ public final class PromisesTest {
             forty[2 * i] = i;
             forty[2 * i + 1] = i % 4;
         }
-        fill(y, 3, 1, forty);
+        Roads.fill(y, 3, 1, forty);
         is("30 twenty", y.grounds(3, 1, 0, 20), 20);
         for (int i = 0; i < 24; i++) is("30 twenty", y.yard(i, 0), i < 20 ? i % 4 : 0);
     }
@@ -1082,7 +1050,7 @@ public final class PromisesTest {
     private static void nothingChangesByAsking() {
         TillTheyMeet x = uneven();
         x.day();
-        int[] then = allOf(x);
+        int[] then = Roads.allOf(x);
         for (int w = 0; w < 6; w++) x.run(w);
         for (int g = 0; g < 2; g++) {
             x.done(g, 300);
@@ -1100,6 +1068,6 @@ public final class PromisesTest {
         x.drawn(4);
         x.chance(4, 30, 9, 0);
         x.image();
-        alike("nothing changes", allOf(x), then);
+        Roads.alike(due, "nothing changes", Roads.allOf(x), then);
     }
 }
