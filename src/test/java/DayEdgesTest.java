@@ -16,6 +16,9 @@ public final class DayEdgesTest {
         aTurnForTheLastYard();
         noLessThanNeed();
         needIsAskedEachTime();
+        dayAlone();
+        changesHoldAtOnce();
+        kindsInRuns();
         noWorkIsLeft();
         theLastDayThereIs();
         threeHundredDays();
@@ -114,6 +117,65 @@ public final class DayEdgesTest {
         byKnown.day();
         gangIs("9 for 4, 1, 4", byKnown, 0, 3, 0, 150, 30);
         gangIs("9 for 4, 4; 4 are too much", byKnown, 1, 2, 1, 100, 30);
+    }
+
+    // asked each time, also of a text that is nothing but the day
+    private static void dayAlone() {
+        TillTheyMeet rate = Roads.by("rate day;need 10;worth 0;");
+        int[] byRate = {0, 0, 0, 0, 0, 1, 1, 2, 2, 3};
+        for (int n = 0; n < byRate.length; n++) is("rate is the day, behind " + n, rate.done(0, n), byRate[n]);
+        // 3 a day, for 1, 1, 2, 3, 4, 5, 6
+        TillTheyMeet need = Roads.by("rate 3;need day;worth 0;");
+        int[] byNeed = {0, 3, 6, 7, 8, 9, 9, 10};
+        for (int n = 0; n < byNeed.length; n++) is("need is the day, behind " + n, need.done(1, n), byNeed[n]);
+        for (int n = 1; n < byNeed.length; n++) {
+            rate.day();
+            need.day();
+            is("rate is the day, day " + n, rate.told(1, 3), byRate[n]);
+            is("need is the day, day " + n, need.told(0, 3), byNeed[n]);
+        }
+    }
+
+    // what is changed between two days in which no yard is done, too
+    private static void changesHoldAtOnce() {
+        TillTheyMeet x = behind(1, "rate men;need 100+ground*50-known*80;worth 0;");
+        Roads.write(x, "rate 0;need 40;worth 0;");
+        x.set(0, 15);
+        x.day();
+        gangIs("more men", x, 0, 0, 25, 0, 75);
+        gangIs("as many men", x, 1, 0, 20, 0, 60);
+        x.bore(0, 1);
+        x.day();
+        gangIs("its yard is known", x, 0, 1, 20, 50, 120);
+        gangIs("its yard is not", x, 1, 0, 30, 0, 90);
+        x.ground(23, 0, 1);
+        x.set(1, 30);
+        for (int d = 0; d < 3; d++) x.day();
+        gangIs("sand", x, 0, 1, 65, 50, 255);
+        gangIs("clay", x, 1, 0, 120, 0, 360);
+        x.force(2);
+        x.day();
+        gangIs("another rule", x, 0, 2, 25, 100, 300);
+        gangIs("another rule", x, 1, 3, 0, 150, 450);
+        x.gang(0, 1, 9);
+        x.gang(1, 5, 9);
+        x.day();
+        gangIs("another kind", x, 0, 2, 35, 100, 354);
+        gangIs("another kind", x, 1, 3, 10, 150, 540);
+    }
+
+    private static void kindsInRuns() {
+        TillTheyMeet x = Roads.by("rate 3;need 1;worth 0;");
+        x.gang(0, 1, 2);
+        x.gang(1, 3, 7);
+        // 11 a day at 2 more; twice 11 in day 0, at 14 and 5 more
+        int[] want = {1, 11, 11 * 50 - 32, 13 * 50 - 49, 1200, -1200};
+        for (int w = 0; w < 6; w++) is("kinds, run " + w, x.run(w), want[w]);
+        x.gang(0, 2, 3);
+        x.gang(1, 4, 8);
+        // 3 a day each, but gang 1 none in odd days, at 1 more: 15 and 9 in five days
+        int[] want2 = {5, 15, 15 * 50 - 5 * 30, 9 * 50 - 5 * 31, 1200, -1200};
+        for (int w = 0; w < 6; w++) is("kinds, run " + w, x.run(w), want2[w]);
     }
 
     // If no YARD is left then, its WORK is 0
@@ -432,6 +494,16 @@ public final class DayEdgesTest {
         is("they have met", met.soonest(1), 0);
     }
 
+    /** A gang of so many men does all in a day; if it is gang 1, gang 0 has a turn of 1 man in vain. */
+    private static TillTheyMeet oneAgainstMany(int gang, int wage, int men, int payForADay) {
+        TillTheyMeet x = Roads.by(gang == 0 ? ALL_AT_ONCE : ALL_DOWNWARD);
+        x.set(4, wage);
+        x.set(0, 1);
+        x.set(gang, men);
+        x.set(3, payForADay);
+        return x;
+    }
+
     // of PAYS 0, 5, .. 100 the least by which neither GAIN is below 0; NONE
     private static void cheapestOfTwentyOne() {
         // 12 yards each in 12 days of 10 men: 10 a yard for each 1 of the wage, 1 a yard less for each 1 of a day's pay
@@ -452,6 +524,12 @@ public final class DayEdgesTest {
         TillTheyMeet down = Roads.by(ALL_DOWNWARD);
         is("gang 0 spends 30 in vain", down.cheapest(), NONE);
         is("gang 1 has no turn", Roads.by(ALL_AT_ONCE).cheapest(), 5);
+        // 11 times 11 is 1 more than 24 times 5, 10 times 12 is just so much
+        is("1 below 0, gang 0", oneAgainstMany(0, 11, 11, 0).cheapest(), 10);
+        is("just 0, gang 0", oneAgainstMany(0, 10, 12, 0).cheapest(), 5);
+        // a day's pay is 11, as much as gang 0 spends
+        is("1 below 0, gang 1", oneAgainstMany(1, 11, 12, 11).cheapest(), 10);
+        is("just 0, gang 1", oneAgainstMany(1, 11, 12, 12).cheapest(), 5);
         TillTheyMeet met = behind(1, ALL_AT_ONCE);
         is("they have met, and gained", met.cheapest(), 0);
         down.day();

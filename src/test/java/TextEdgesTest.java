@@ -15,10 +15,12 @@ public final class TextEdgesTest {
         numbersOfFourDigits();
         wordsAlmostRight();
         wordsOutOfPlace();
+        comparedOnce();
         asLongAsCanBe();
         endsTooEarly();
         fiveOpen();
         openTillItsEnd();
+        mostThatWaits();
         sixTexts();
         boundOfRate();
         boundOfNeed();
@@ -194,6 +196,21 @@ public final class TextEdgesTest {
         }
     }
 
+    // SUM, perhaps < or = and a SUM
+    private static void comparedOnce() {
+        for (String first : new String[] {"<", "="}) {
+            good("rate 1" + first + "2;need (1" + first + "2)+1;worth not 1" + first + "2;");
+            for (String second : new String[] {"<", "="}) {
+                fault("rate 1" + first + "2" + second + "3;", 8);
+                fault("rate not 1" + first + "2" + second + "3;", 12);
+                good("rate (1" + first + "2)" + second + "3;need 1" + first + "(2" + second + "3);worth 1;");
+                good("rate 1" + first + "2 and 3" + second + "4 or 5" + first + "6;need 1;worth 1;");
+            }
+            fault("rate " + first + "1;", 5);
+            fault("rate 1" + first + ";", 7);
+        }
+    }
+
     // TOKENS, each as long as can be
     private static void asLongAsCanBe() {
         good("rate4;need4;worth4;");
@@ -275,6 +292,19 @@ public final class TextEdgesTest {
         fault("rate (1 or -----1);", 15);
         good("rate ((((1)-((1)))));need 1;worth 1;");
         fault("rate ((((1)-(((1))))));", 14);
+    }
+
+    // as much as can wait for its other side: five in each of five brackets, and five behind them
+    private static void mostThatWaits() {
+        for (int last = 0; last <= 1; last++) {
+            StringBuilder e = new StringBuilder();
+            for (int i = 0; i < 5; i++) e.append("0 or 1 and 1<1+1*(");
+            e.append("0 or 1 and 1<1+1*").append(last).append(")))))");
+            TillTheyMeet x = new TillTheyMeet();
+            is(e.toString(), Roads.write(x, "rate " + e + ";need 1;worth 1;"), 1);
+            x.force(1);
+            is(e.toString(), x.told(0, 7), last);
+        }
     }
 
     // There are 6 TEXTS at most, TEXT 0 with them
